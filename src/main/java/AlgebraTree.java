@@ -23,17 +23,17 @@ public final class AlgebraTree {
     // an expression's error alike, and it stands before all values in order.
     private static final int OPEN = ERROR;
 
+    private final Maker maker;
     private final Triples triples;
     private final Expressions expressions;
     private final Nodes nodes;
-    private final Maker maker;
     private final Rows told;
 
     public AlgebraTree() {
-        triples = new Triples();
-        expressions = new Expressions();
-        nodes = new Nodes();
-        maker = new Maker(triples, expressions, nodes);
+        maker = new Maker();
+        triples = maker.triples;
+        expressions = maker.expressions;
+        nodes = maker.nodes;
         told = new Rows();
     }
 
@@ -74,14 +74,14 @@ public final class AlgebraTree {
     }
 
     public int both(int kind, int a, int b) {
-        if (!isBelow(kind, Node.BOTH_KINDS) || !nodes.canBearOver(a) || !nodes.has(b)) {
+        if (!isBelow(kind, Node.BOTH_KINDS) || !nodes.canStandOver(a) || !nodes.has(b)) {
             return NONE;
         }
         return nodes.add(new Node(Node.JOIN + kind, a, b));
     }
 
     public int left(int a, int b, int e) {
-        if (!nodes.canBearOver(a) || !nodes.has(b) || (e != NONE && !expressions.has(e))) {
+        if (!nodes.canStandOver(a) || !nodes.has(b) || (e != NONE && !expressions.has(e))) {
             return NONE;
         }
         Node node = new Node(Node.LEFT, a, b);
@@ -90,7 +90,7 @@ public final class AlgebraTree {
     }
 
     public int filter(int a, int e) {
-        if (!nodes.canBearOver(a) || !expressions.has(e)) {
+        if (!nodes.canStandOver(a) || !expressions.has(e)) {
             return NONE;
         }
         Node node = new Node(Node.FILTER, a, NONE);
@@ -99,7 +99,7 @@ public final class AlgebraTree {
     }
 
     public int extend(int a, int v, int e) {
-        if (!nodes.canBearOver(a) || !isVariable(v) || !expressions.has(e)) {
+        if (!nodes.canStandOver(a) || !isVariable(v) || !expressions.has(e)) {
             return NONE;
         }
         Node node = new Node(Node.EXTEND, a, NONE);
@@ -109,7 +109,7 @@ public final class AlgebraTree {
     }
 
     public int project(int a, int set) {
-        if (!nodes.canBearOver(a) || !isBelow(set, SETS)) {
+        if (!nodes.canStandOver(a) || !isBelow(set, SETS)) {
             return NONE;
         }
         Node node = new Node(Node.PROJECT, a, NONE);
@@ -118,11 +118,11 @@ public final class AlgebraTree {
     }
 
     public int distinct(int a) {
-        return nodes.canBearOver(a) ? nodes.add(new Node(Node.DISTINCT, a, NONE)) : NONE;
+        return nodes.canStandOver(a) ? nodes.add(new Node(Node.DISTINCT, a, NONE)) : NONE;
     }
 
     public int slice(int a, int from, int n) {
-        if (!nodes.canBearOver(a) || !isSliceNumber(from) || !isSliceNumber(n)) {
+        if (!nodes.canStandOver(a) || !isSliceNumber(from) || !isSliceNumber(n)) {
             return NONE;
         }
         Node node = new Node(Node.SLICE, a, NONE);
@@ -132,7 +132,7 @@ public final class AlgebraTree {
     }
 
     public int order(int a, int e, boolean down) {
-        if (!nodes.canBearOver(a) || !expressions.has(e)) {
+        if (!nodes.canStandOver(a) || !expressions.has(e)) {
             return NONE;
         }
         Node node = new Node(Node.ORDER, a, NONE);
@@ -142,7 +142,7 @@ public final class AlgebraTree {
     }
 
     public int group(int a, int set, int w, int e, int v) {
-        if (!nodes.canBearOver(a) || !isBelow(set, SETS) || !isBelow(w, Node.AGGREGATES)) {
+        if (!nodes.canStandOver(a) || !isBelow(set, SETS) || !isBelow(w, Node.AGGREGATES)) {
             return NONE;
         }
         if (!expressions.has(e) || !isVariable(v) || isInSet(v, set)) {
@@ -157,7 +157,7 @@ public final class AlgebraTree {
     }
 
     public int graph(int g, int a) {
-        if (!isBelow(g, GRAPHS) || !nodes.canBearOver(a)) {
+        if (!isBelow(g, GRAPHS) || !nodes.canStandOver(a)) {
             return NONE;
         }
         Node node = new Node(Node.GRAPH, a, NONE);
@@ -166,7 +166,7 @@ public final class AlgebraTree {
     }
 
     public int graphs(int v, int a) {
-        if (!isVariable(v) || !nodes.canBearOver(a)) {
+        if (!isVariable(v) || !nodes.canStandOver(a)) {
             return NONE;
         }
         Node node = new Node(Node.EACH_GRAPH, a, NONE);
@@ -463,7 +463,7 @@ public final class AlgebraTree {
             return isBelow(node, size);
         }
 
-        boolean canBearOver(int a) {
+        boolean canStandOver(int a) {
             return !isFull() && has(a);
         }
 
@@ -631,18 +631,18 @@ public final class AlgebraTree {
      * stand over is not made over and over.
      */
     private static final class Maker {
-        private final Triples triples;
-        private final Expressions expressions;
-        private final Nodes nodes;
+        final Triples triples;
+        final Expressions expressions;
+        final Nodes nodes;
         private final Rows[] tables;
         private final int[] wantedGraphs;
         private final int[] keys;
         private final int[] places;
 
-        Maker(Triples triples, Expressions expressions, Nodes nodes) {
-            this.triples = triples;
-            this.expressions = expressions;
-            this.nodes = nodes;
+        Maker() {
+            triples = new Triples();
+            expressions = new Expressions();
+            nodes = new Nodes();
             tables = new Rows[NODES * GRAPHS];
             wantedGraphs = new int[NODES];
             keys = new int[ROWS];
@@ -688,6 +688,7 @@ public final class AlgebraTree {
                 case Node.GRAPH:
                     return 1 << node.graph;
                 case Node.EACH_GRAPH:
+                    // Graph 0 has no name that a variable could take.
                     return (1 << GRAPHS) - 2;
                 default:
                     return wanted;

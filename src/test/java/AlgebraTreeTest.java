@@ -51,6 +51,9 @@ public final class AlgebraTreeTest {
         runs();
         tooLongBelow();
         longestLeftJoin();
+        longestLists();
+        rowsUsedAgain();
+        nowLongNowShort();
         values();
         looks();
         counts();
@@ -674,6 +677,97 @@ public final class AlgebraTreeTest {
         due("row behind", row(x, 80), ". . . . . .");
         due("88 hold", x.run(x.left(a, b, x.apply(LESS, v1, constant(x, 11)))), TOO_LONG);
         due("all", x.run(x.left(a, b, NONE)), TOO_LONG);
+    }
+
+    /** Every kind of node over 80 rows, the most that there may be. */
+    private static void longestLists() {
+        part = "80 rows";
+        AlgebraTree x = counted(40);
+        int a = x.pattern(-1, 0, 0);
+        int most = x.both(UNION, a, a);
+        int v0 = variable(x, 0);
+        int one = constant(x, 1);
+        int emptyRow = x.project(x.slice(a, 0, 1), 0);
+        due("join", x.run(x.both(JOIN, most, emptyRow)), 80);
+        due("union", x.run(x.both(UNION, most, x.pattern(9, 9, 9))), 80);
+        due("minus", x.run(x.both(MINUS, most, emptyRow)), 80);
+        due("left", x.run(x.left(most, emptyRow, NONE)), 80);
+        due("left of none", x.run(x.left(most, x.pattern(9, 9, 9), NONE)), 80);
+        due("filter", x.run(x.filter(most, one)), 80);
+        due("extend", x.run(x.extend(most, 5, v0)), 80);
+        due("last row", row(x, 79), "39 . . . . 39");
+        due("project", x.run(x.project(most, 0)), 80);
+        due("many", x.many(79), 80);
+        due("distinct", x.run(x.distinct(most)), 40);
+        due("slice", x.run(x.slice(most, 0, 80)), 80);
+        int down = x.order(most, v0, true);
+        due("order", x.run(down), 80);
+        due("first row", row(x, 1), "39 . . . . .");
+        due("last row", row(x, 79), "0 . . . . .");
+        due("same", x.same(most, down), true);
+        rows(x, x.group(most, 0, 1, v0, 5), ". . . . . 1560");
+        due("groups", x.run(x.group(x.extend(most, 5, v0), 33, 0, one, 4)), 40);
+        due("graph", x.run(x.graph(0, most)), 80);
+        for (int i = 0; i < 20; i++) {
+            x.triple(1 + i % 3, i, 1, 1);
+        }
+        int b = x.pattern(-1, 1, 1);
+        int twice = x.both(UNION, b, b);
+        due("graphs", x.run(x.graphs(5, x.both(UNION, twice, twice))), 80);
+    }
+
+    /** What was there before in the same place must not shine through. */
+    private static void rowsUsedAgain() {
+        part = "rows used again";
+        AlgebraTree x = told(t(1, 7, 1, 7), t(1, 8, 1, 9), t(2, 8, 1, 9), t(0, 3, 1, 3), t(0, 4, 1, 5));
+        int loops = x.pattern(-1, 1, -1);
+        rows(x, x.graphs(5, loops), "7 . . . . 1");
+        int three = x.both(UNION, loops, x.both(UNION, loops, loops));
+        due("three", x.run(three), 3);
+        due("three alike", x.many(0), 3);
+        due("one", x.run(loops), 1);
+        due("one alike", x.many(0), 1);
+        int all = x.pattern(-1, 1, -2);
+        int minus = x.both(MINUS, all, loops);
+        int distinct = x.distinct(minus);
+        rows(x, distinct, "4 5 . . . .");
+        x.triple(0, 5, 1, 5);
+        x.triple(0, 5, 1, 4);
+        rows(x, distinct, "4 5 . . . .");
+        x.triple(0, 2, 1, 4);
+        rows(x, distinct, "4 5 . . . .", "2 4 . . . .");
+        int free = x.both(MINUS, x.pattern(-1, 1, -2), x.pattern(-3, 2, -1));
+        int firstOnly = x.distinct(x.project(free, 1));
+        rows(x, firstOnly, "3 . . . . .", "4 . . . . .", "5 . . . . .", "2 . . . . .");
+        x.triple(0, 0, 2, 3);
+        x.triple(0, 0, 2, 2);
+        rows(x, firstOnly, "4 . . . . .", "5 . . . . .");
+        x.triple(0, 0, 2, 4);
+        x.triple(0, 0, 2, 5);
+        rows(x, firstOnly);
+        x.triple(0, 4, 1, 6);
+        rows(x, firstOnly);
+        x.triple(0, 6, 1, 6);
+        rows(x, firstOnly, "6 . . . . .");
+    }
+
+    private static void nowLongNowShort() {
+        part = "now too long, now not";
+        AlgebraTree x = counted(9);
+        int a = x.pattern(-1, 0, 0);
+        int free = x.both(MINUS, a, x.pattern(-1, 1, 1));
+        int wide = x.both(JOIN, free, x.pattern(-2, 0, 0));
+        int above = x.distinct(wide);
+        due("81 rows", x.run(wide), TOO_LONG);
+        due("above", x.run(above), TOO_LONG);
+        x.triple(0, 4, 1, 1);
+        due("72 rows", x.run(above), 72);
+        due("row 71", row(x, 71), "8 8 . . . .");
+        due("same", x.same(wide, above), true);
+        x.triple(0, 9, 0, 0);
+        due("90 rows", x.run(above), TOO_LONG);
+        due("same", x.same(wide, above), false);
+        due("told stays", row(x, 71), "8 8 . . . .");
     }
 
     private static void values() {
