@@ -10,8 +10,9 @@ import java.util.Random;
  * writing of the document that is slow and made of lists and maps.
  */
 public final class AlgebraTreeModelTest {
-    private static final int RUNS = 2000;
-    private static final int CALLS = 400;
+    private static final int RUNS = 6000;
+    // What later calls of an object answer is free.
+    private static final int CALLS = 512;
 
     private static int wrong = 0;
 
@@ -33,11 +34,16 @@ public final class AlgebraTreeModelTest {
     }
 
     private static final class Run {
+        static final int SAMPLES = 4;
+        static final int WHOLE_ROWS = 8;
+        static final int MOST_CALLS_OF_A_STEP = 1 + 3 * SAMPLES + 6 * WHOLE_ROWS;
+
         final int number;
         final Random dice;
         final Map<String, Integer> seen;
         final AlgebraTree program = new AlgebraTree();
         final Model model = new Model();
+        int calls = 0;
 
         Run(int number, Map<String, Integer> seen) {
             this.number = number;
@@ -46,14 +52,12 @@ public final class AlgebraTreeModelTest {
         }
 
         void play() {
-            int calls = 1;
             int early = 10 + pick(60);
             for (int i = 0; i < early; i++) {
                 triple();
-                calls++;
             }
-            while (calls < CALLS && wrong < 20) {
-                calls += step();
+            while (calls + MOST_CALLS_OF_A_STEP <= CALLS && wrong < 20) {
+                step();
             }
         }
 
@@ -62,6 +66,7 @@ public final class AlgebraTreeModelTest {
         }
 
         void due(String call, int got, int want) {
+            calls++;
             if (got == AlgebraTree.NONE) {
                 see("refused");
             }
@@ -102,21 +107,20 @@ public final class AlgebraTreeModelTest {
             return late(model.nodes.size());
         }
 
-        int step() {
+        void step() {
             int kind = pick(100);
             if (kind < 3) {
                 // A late triple has to change the rows of old nodes.
                 triple();
-            } else if (kind < 30) {
+            } else if (kind < 33) {
                 anExpression();
-            } else if (kind < 65) {
+            } else if (kind < 80) {
                 aNode();
-            } else if (kind < 85) {
-                return 1 + ranRows();
+            } else if (kind < 90) {
+                ranRows();
             } else {
                 comparison();
             }
-            return 1;
         }
 
         void triple() {
@@ -183,12 +187,12 @@ public final class AlgebraTreeModelTest {
             }
         }
 
-        int ranRows() {
+        void ranRows() {
             int node = node();
             int count = model.run(node);
             due("run", program.run(node), count);
             see(count == -2 ? "too long" : count > 0 ? "rows" : count == 0 ? "no rows" : "no node");
-            for (int k = 0; k < 6; k++) {
+            for (int k = 0; k < SAMPLES; k++) {
                 int i = near(model.told.size());
                 int v = near(6);
                 int e = expression();
@@ -196,12 +200,13 @@ public final class AlgebraTreeModelTest {
                 due("look", program.look(i, e), model.look(i, e));
                 due("many", program.many(i), model.many(i));
             }
-            allValues();
-            return 18;
+            wholeRows();
         }
 
-        void allValues() {
-            for (int i = 0; i < model.told.size(); i++) {
+        void wholeRows() {
+            int size = model.told.size();
+            int from = pick(Math.max(1, size - WHOLE_ROWS + 1));
+            for (int i = from; i < size && i < from + WHOLE_ROWS; i++) {
                 for (int v = 0; v < 6; v++) {
                     due("value of " + i + ", " + v, program.value(i, v), model.value(i, v));
                 }
