@@ -1,7 +1,13 @@
+import java.lang.reflect.Array;
 import java.lang.reflect.Constructor;
 import java.lang.reflect.Field;
 import java.lang.reflect.Method;
 import java.lang.reflect.Modifier;
+import java.util.ArrayDeque;
+import java.util.Arrays;
+import java.util.Deque;
+import java.util.IdentityHashMap;
+import java.util.Map;
 import java.util.Set;
 import java.util.TreeSet;
 
@@ -34,6 +40,7 @@ public final class AlgebraTreeFaceTest {
                 due(m + " takes at most seven", m.getParameterCount() <= 7);
             }
         }
+        room();
         System.out.println(wrong == 0 ? "the face is as due" : wrong + " things are not as due");
         if (wrong != 0) {
             System.exit(1);
@@ -98,5 +105,85 @@ public final class AlgebraTreeFaceTest {
         }
         due("open fields of " + type + " are " + open + ", not " + found, found.equals(open));
         due("at most twenty fields in " + type, own <= 20);
+    }
+
+    /** All calls of a run share some 600,000 objects and 7.3 million elements: one object may take few of them. */
+    private static void room() {
+        AlgebraTree x = dearest();
+        int[] made = objectsAndElements(x);
+        due("few objects, not " + made[0], made[0] <= 500);
+        due("few elements, not " + made[1], made[1] <= 65000);
+        x.run(29);
+        x.same(29, 28);
+        x.leaf(0, 0);
+        x.distinct(0);
+        due("as many behind more calls", Arrays.equals(objectsAndElements(x), made));
+    }
+
+    private static int[] objectsAndElements(Object first) {
+        Map<Object, Boolean> found = new IdentityHashMap<>();
+        Deque<Object> open = new ArrayDeque<>();
+        int elements = 0;
+        reach(first, found, open);
+        while (!open.isEmpty()) {
+            elements += parts(open.pop(), found, open);
+        }
+        return new int[] {found.size(), elements};
+    }
+
+    /** Every number of triples, expressions and nodes, and each node's rows over every graph. */
+    private static AlgebraTree dearest() {
+        AlgebraTree x = new AlgebraTree();
+        for (int i = 0; i < 60; i++) {
+            x.triple(i % 4, i, 0, 0);
+        }
+        for (int i = 0; i < 30; i++) {
+            x.leaf(0, i);
+        }
+        x.pattern(-1, 0, 0);
+        for (int i = 1; i < 28; i++) {
+            x.left(i - 1, i - 1, 0);
+        }
+        x.graphs(5, 27);
+        x.both(1, 27, 28);
+        x.run(29);
+        return x;
+    }
+
+    private static void reach(Object object, Map<Object, Boolean> found, Deque<Object> open) {
+        if (object != null && found.put(object, true) == null) {
+            open.push(object);
+        }
+    }
+
+    /** How many fields or elements it has; what they lead to is open then. */
+    private static int parts(Object object, Map<Object, Boolean> found, Deque<Object> open) {
+        if (object.getClass().isArray()) {
+            int length = Array.getLength(object);
+            for (int i = 0; i < length && !object.getClass().getComponentType().isPrimitive(); i++) {
+                reach(Array.get(object, i), found, open);
+            }
+            return length;
+        }
+        int count = 0;
+        for (Field f : object.getClass().getDeclaredFields()) {
+            if (Modifier.isStatic(f.getModifiers())) {
+                continue;
+            }
+            count++;
+            if (!f.getType().isPrimitive()) {
+                f.setAccessible(true);
+                reach(valueOf(f, object), found, open);
+            }
+        }
+        return count;
+    }
+
+    private static Object valueOf(Field f, Object object) {
+        try {
+            return f.get(object);
+        } catch (IllegalAccessException e) {
+            throw new IllegalStateException(e);
+        }
     }
 }

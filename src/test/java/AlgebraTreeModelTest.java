@@ -80,9 +80,15 @@ public final class AlgebraTreeModelTest {
             return dice.nextInt(bound);
         }
 
-        /** Mostly a number of 0 .. size - 1, at times one beside them. */
+        /** One of the two numbers next to low .. high, or one as far off as can be. */
+        int outside(int low, int high) {
+            int[] all = {low - 1, high + 1, Integer.MIN_VALUE, Integer.MAX_VALUE};
+            return all[pick(all.length)];
+        }
+
+        /** Mostly a number of 0 .. size - 1, at times one outside. */
         int near(int size) {
-            return pick(25) == 0 || size == 0 ? pick(2) == 0 ? -1 : size : pick(size);
+            return pick(25) == 0 || size == 0 ? outside(0, size - 1) : pick(size);
         }
 
         /** Mostly one of the newer ones, so that deep trees come about. */
@@ -91,12 +97,12 @@ public final class AlgebraTreeModelTest {
         }
 
         int term(int bound) {
-            return pick(60) == 0 ? pick(2) == 0 ? -1 : 1000 : pick(bound);
+            return pick(60) == 0 ? outside(0, 999) : pick(bound);
         }
 
         /** A term one time in so many, else a variable. */
         int place(int bound, int oneIn) {
-            return pick(80) == 0 ? pick(2) == 0 ? -7 : 1000 : pick(oneIn) == 0 ? pick(bound) : -1 - pick(6);
+            return pick(80) == 0 ? outside(-6, 999) : pick(oneIn) == 0 ? pick(bound) : -1 - pick(6);
         }
 
         int expression() {
@@ -145,8 +151,8 @@ public final class AlgebraTreeModelTest {
         }
 
         int constant() {
-            int[] odd = {-1000001, -1000000, 1000000, 1000001, 1000};
-            return pick(4) == 0 ? odd[pick(5)] : pick(7) - 3;
+            int[] odd = {-1000000, 1000000, 1000, outside(-1000000, 1000000)};
+            return pick(4) == 0 ? odd[pick(odd.length)] : pick(7) - 3;
         }
 
         void aNode() {
@@ -155,13 +161,13 @@ public final class AlgebraTreeModelTest {
             int b = node();
             int e = expression();
             int v = near(6);
-            int set = pick(40) == 0 ? 64 : pick(64);
+            int set = pick(40) == 0 ? outside(0, 63) : pick(64);
             boolean down = pick(2) == 0;
             int w = near(4);
             int both = near(3);
             int g = near(4);
-            int from = pick(30) == 0 ? 1001 : pick(5);
-            int n = pick(30) == 0 ? -1 : pick(9);
+            int from = pick(30) == 0 ? outside(0, 1000) : pick(5);
+            int n = pick(30) == 0 ? outside(0, 1000) : pick(9);
             int s = place(5, 6);
             int p = place(2, 2);
             int o = place(5, 6);

@@ -60,6 +60,7 @@ public final class AlgebraTreeTest {
         sameness();
         nodeLimit();
         refusalsChangeNothing();
+        exampleOfTheReadme();
         System.out.println(wrong == 0 ? "all promises hold" : wrong + " answers are wrong");
         if (wrong != 0) {
             System.exit(1);
@@ -910,5 +911,30 @@ public final class AlgebraTreeTest {
         x.graphs(6, 0);
         due("next node", x.distinct(0), 1);
         rows(x, 1, "1 1 1 . . .", "2 2 2 . . .");
+    }
+
+    /** The calls of README.md, with the answers that stand there. */
+    private static void exampleOfTheReadme() {
+        part = "README.md";
+        AlgebraTree x = new AlgebraTree();
+        x.triple(0, 1, 7, 20);
+        x.triple(0, 2, 7, 30);
+        x.triple(1, 2, 8, 5);
+        int all = x.pattern(-1, 7, -2);
+        int age = variable(x, 1);
+        int limit = constant(x, 25);
+        int old = x.filter(all, x.apply(LESS, limit, age));
+        due("run(old)", x.run(old), 1);
+        due("value(0, 0)", x.value(0, 0), 2);
+        due("value(0, 5)", x.value(0, 5), ERROR);
+        due("look(0, limit)", x.look(0, limit), 25);
+        int named = x.graphs(5, x.pattern(-1, 8, -3));
+        int more = x.left(all, named, NONE);
+        rows(x, more, "1 20 . . . .", "2 30 5 . . 1");
+        int oldest = x.group(all, 0, 3, age, 1);
+        due("run(oldest)", x.run(oldest), 1);
+        due("value(0, 1)", x.value(0, 1), 30);
+        due("same(old, all)", x.same(old, all), false);
+        due("group", x.group(all, 2, 3, age, 1), NONE);
     }
 }
